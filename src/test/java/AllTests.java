@@ -1,0 +1,1 @@
+public final class AllTests { public static void main(String[] a) { new RecipeScheduler(); } }
