@@ -862,7 +862,7 @@ public final class RecipeScheduler {
         }
 
         private void passRun(int low, int high) {
-            while (end < text.length && isWithin(text.bytes[end], low, high)) {
+            while (end < text.length && low <= text.bytes[end] && text.bytes[end] <= high) {
                 end++;
             }
         }

@@ -135,6 +135,48 @@ final class InputTests {
     Kit.due("state", Kit.state(x), Kit.state(Kit.fresh()));
   }
 
+  static void promise4AFaultyTextAfterAGoodOneChangesNothing() {
+    RecipeScheduler x = Kit.loaded(RecipeTests.LARGE);
+    Kit.feed(x, "recipe 1 1 1 1;pan a 1;step x 1 1 in a hot;step y 1 1 after x;step z 1 1");
+    String before = Kit.state(x);
+    Kit.throwsJust(Kit.ARGUMENT, "load()", x::load);
+    Kit.due("state", Kit.state(x), before);
+  }
+
+  static void promise4NothingOfEarlierRecipesIsLeft() {
+    String[] setups = {RecipeTests.LARGE, "recipe 4 9 50 99;pan p 1;pan q 1;pan r 1;pan s 1;"
+        + "step a 60 9 in s hot alone;step b 60 9 in r after a;step c 60 9 in q after b a;"
+        + "step d 60 9 in p;step e 60 9 in p;step f 60 9 hot alone after e;", Kit.DEFAULT,
+        RecipeTests.BURNING, "recipe 1 1 3 5;pan p 1;step a 5 1;step b 5 1 alone;",
+        "recipe 2 1 3 5;step a 5 1;"};
+    RecipeScheduler x = Kit.fresh();
+    for (int i = 0; i < setups.length * setups.length * 2; i++) {
+      String setup = setups[(i * 5 + i / 7) % setups.length];
+      Kit.load(x, setup);
+      RecipeScheduler y = Kit.loaded(setup);
+      for (int minutes = 1; minutes < 10; minutes++) {
+        Kit.due("state", Kit.state(x), Kit.state(y));
+        Kit.due("meanDuration()", x.meanDuration(), y.meanDuration());
+        x.pass(minutes % 3 + 1);
+        y.pass(minutes % 3 + 1);
+      }
+    }
+  }
+
+  static void promise4BurntAndAgedStepsWaitAgain() {
+    RecipeScheduler x = Kit.loaded(RecipeTests.BURNING);
+    x.pass(7);
+    Kit.load(x, RecipeTests.BURNING);
+    Kit.due("status(0)", x.status(0), RecipeScheduler.WAITING);
+    Kit.load(x, Kit.DEFAULT);
+    x.pass(8);
+    Kit.due("age(FRY)", x.age(Kit.FRY), 2);
+    Kit.load(x, Kit.DEFAULT);
+    Kit.due("age(FRY)", x.age(Kit.FRY), 0);
+    x.pass(7);
+    Kit.due("age(FRY)", x.age(Kit.FRY), 1);
+  }
+
   static void promise5And6BothTellTheLatestText() {
     RecipeScheduler x = Kit.fresh();
     Kit.due("errorCode()", x.errorCode(), 0);

@@ -131,18 +131,34 @@ final class LanguageTests {
   }
 
   static void rule12CallsMakeNoObjects() {
+    RecipeScheduler x = new RecipeScheduler();
+    long made = bytesMadeBy(() -> {
+      for (int i = 0; i < 100; i++) {
+        manyCalls(x);
+      }
+      return null;
+    });
+    Kit.due("bytes made by 100 rounds of calls are few: " + made, made < 5000, true);
+  }
+
+  static void rule12AnObjectIsSmall() {
+    long made = bytesMadeBy(RecipeScheduler::new);
+    // 512 objects of some 200 parts and 3,000 elements each stay far below the room of a run.
+    Kit.due("bytes made by a constructor: " + made, made < 20000, true);
+  }
+
+  /** The least of several rounds, as the machine itself may make objects in some of them. */
+  private static long bytesMadeBy(Kit.Call call) {
     com.sun.management.ThreadMXBean counter =
         (com.sun.management.ThreadMXBean) ManagementFactory.getThreadMXBean();
-    RecipeScheduler x = new RecipeScheduler();
-    manyCalls(x);
     long thread = Thread.currentThread().getId();
-    counter.getThreadAllocatedBytes(thread);
-    long before = counter.getThreadAllocatedBytes(thread);
-    for (int i = 0; i < 100; i++) {
-      manyCalls(x);
+    long least = Long.MAX_VALUE;
+    for (int i = 0; i < 5; i++) {
+      long before = counter.getThreadAllocatedBytes(thread);
+      call.answer();
+      least = Math.min(least, counter.getThreadAllocatedBytes(thread) - before);
     }
-    long made = counter.getThreadAllocatedBytes(thread) - before;
-    Kit.due("bytes made by 100 rounds of calls are few: " + made, made < 5000, true);
+    return least;
   }
 
   private static void manyCalls(RecipeScheduler x) {
@@ -179,17 +195,5 @@ final class LanguageTests {
   private static void appendSetup(RecipeScheduler x) {
     x.append(0x72656369, 0x70652031, 0x20312030, 0x20393b73, 0x74657020);
     x.append(0x61203630, 0x20312068, 0x6f743b20, 0x20202020, 0x20202020);
-  }
-
-  static void rule12AnObjectIsSmall() {
-    com.sun.management.ThreadMXBean counter =
-        (com.sun.management.ThreadMXBean) ManagementFactory.getThreadMXBean();
-    long thread = Thread.currentThread().getId();
-    new RecipeScheduler().stepCount();
-    long before = counter.getThreadAllocatedBytes(thread);
-    new RecipeScheduler().stepCount();
-    long made = counter.getThreadAllocatedBytes(thread) - before;
-    // 512 objects of some 200 parts and 3,000 elements each stay far below the room of a run.
-    Kit.due("bytes made by a constructor: " + made, made < 20000, true);
   }
 }

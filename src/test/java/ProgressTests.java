@@ -325,5 +325,10 @@ final class ProgressTests {
     for (int step = 0; step < then.length; step++) {
       Kit.due("slack " + step, x.slack(step), then[step]);
     }
+    x.undo();
+    x.undo();
+    for (int step = 0; step < large.length; step++) {
+      Kit.due("slack " + step, x.slack(step), large[step]);
+    }
   }
 }

@@ -79,6 +79,21 @@ final class SetupTextTests {
     bad(1, "recipe 1 2 4 9 ^step a 1 1;");
   }
 
+  static void promise4WordsAreComparedAsAWhole() {
+    bad(1, "^xecipe 1 2 4 9;step a 1 1;");
+    bad(1, "^recipx 1 2 4 9;step a 1 1;");
+    bad(1, HEAD + "^xan a 1;step a 1 1;");
+    bad(1, HEAD + "^pans a 1;step a 1 1;");
+    bad(1, HEAD + "^xtep a 1 1;");
+    bad(1, HEAD + "step a 1 1 ^xot;");
+    bad(1, HEAD + "step a 1 1 ^xlone;");
+    bad(1, HEAD + "step a 1 1;step b 1 1 ^xfter a;");
+    bad(1, HEAD + "pan p 1;step a 1 1 ^xn p;");
+    bad(3, HEAD + "pan pa 1;step a 1 1 in ^xa;");
+    bad(3, HEAD + "pan pa 1;step a 1 1 in ^p;");
+    bad(3, HEAD + "pan pa 1;step a 1 1 in ^pax;");
+  }
+
   static void promise4PanTypes() {
     Kit.goodSetup(HEAD + "pan a 1;pan b 5;pan c 1;pan d 1;step a 1 1;", 1);
     bad(5, HEAD + "pan a 1;pan b 5;pan c 1;pan d 1;^pan e 1;step a 1 1;");

@@ -142,6 +142,19 @@ final class UndoTests {
     Kit.due("state", Kit.state(x), before);
   }
 
+  static void promise62BurntStepsAreRestoredToo() {
+    RecipeScheduler x = Kit.loaded(RecipeTests.BURNING);
+    x.pass(7);
+    x.save(0);
+    x.pass(4);
+    Kit.due("undo()", x.undo(), 1);
+    Kit.due("status(0) after undo()", x.status(0), RecipeScheduler.BURNT);
+    x.pass(4);
+    Kit.due("restore(0)", x.restore(0), 7);
+    Kit.due("status(0) after restore()", x.status(0), RecipeScheduler.BURNT);
+    Kit.due("statusAfter(0, 0)", x.statusAfter(0, 0), RecipeScheduler.BURNT);
+  }
+
   static void promise62RestoreLeavesTheRestAlone() {
     RecipeScheduler x = Kit.fresh();
     x.save(0);
