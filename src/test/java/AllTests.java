@@ -8,10 +8,15 @@ import java.util.TreeSet;
  */
 public final class AllTests {
   private static final int PROMISES = 64;
-  private static final Class<?>[] TESTS = {
+  static final Class<?>[] TESTS = {
       InputTests.class, SetupTextTests.class, ScriptTextTests.class, RecipeTests.class,
       ProgressTests.class, MinuteTests.class, ForecastTests.class, ChangeTests.class,
-      UndoTests.class, FaceTests.class, ModelTests.class, LanguageTests.class};
+      UndoTests.class, FaceTests.class, ModelTests.class, LanguageTests.class,
+      RecipeTermsBoundaries.class, ProgressTermsBoundaries.class, MinuteTermsBoundaries.class,
+      TextBoundaries.class, ErrorBoundaries.class, StateTermsBoundaries.class,
+      InputBoundaries.class, RecipeBoundaries.class, ProgressBoundaries.class,
+      ForecastBoundaries.class, ChangeBoundaries.class, SavedBoundaries.class,
+      SentenceTests.class};
 
   private static int passed;
   private static int failed;

@@ -6,15 +6,6 @@ final class ForecastTests {
 
   private ForecastTests() {}
 
-  /** Steps one after the other by the only cook: they are done after one minute more. */
-  private static String row(int... durations) {
-    StringBuilder text = new StringBuilder("recipe 1 30 0 99;");
-    for (int i = 0; i < durations.length; i++) {
-      text.append("step ").append((char) ('a' + i)).append(' ').append(durations[i]).append(" 1;");
-    }
-    return text.toString();
-  }
-
   static void promise42MinutesToFinish() {
     RecipeScheduler x = Kit.fresh();
     for (int minute = 0; minute < 17; minute++) {
@@ -37,7 +28,7 @@ final class ForecastTests {
   }
 
   static void promise42TheBoundOf500() {
-    RecipeScheduler x = Kit.loaded(row(60, 60, 60, 60, 60, 60, 60, 60, 19));
+    RecipeScheduler x = Kit.loaded(Kit.row(60, 60, 60, 60, 60, 60, 60, 60, 19));
     Kit.due("minutesToFinish()", x.minutesToFinish(), 500);
     x.setDuration(8, 20);
     Kit.due("minutesToFinish()", x.minutesToFinish(), NONE);
@@ -75,11 +66,11 @@ final class ForecastTests {
     Kit.due("state", Kit.state(x), Kit.state(Kit.fresh()));
     Kit.due("statusAfter(4, 500)", x.statusAfter(4, 500), RecipeScheduler.DONE);
     for (int minutes : new int[] {-1, 501, Integer.MAX_VALUE, Integer.MIN_VALUE}) {
-      Kit.fails(Kit.ARGUMENT, x, "statusAfter 0 " + minutes, () -> x.statusAfter(0, minutes));
-      Kit.fails(Kit.BOUNDS, x, "statusAfter 5 " + minutes, () -> x.statusAfter(5, minutes));
-      Kit.fails(Kit.BOUNDS, x, "statusAfter -1 " + minutes, () -> x.statusAfter(-1, minutes));
+      Kit.throwsJust(Kit.ARGUMENT, "statusAfter 0 " + minutes, () -> x.statusAfter(0, minutes));
+      Kit.throwsJust(Kit.BOUNDS, "statusAfter 5 " + minutes, () -> x.statusAfter(5, minutes));
+      Kit.throwsJust(Kit.BOUNDS, "statusAfter -1 " + minutes, () -> x.statusAfter(-1, minutes));
     }
-    Kit.fails(Kit.BOUNDS, x, "statusAfter 5 1", () -> x.statusAfter(5, 1));
+    Kit.throwsJust(Kit.BOUNDS, "statusAfter 5 1", () -> x.statusAfter(5, 1));
     Kit.load(x, RecipeTests.BURNING);
     Kit.due("statusAfter(0, 7)", x.statusAfter(0, 7), RecipeScheduler.BURNT);
     Kit.due("statusAfter(0, 11)", x.statusAfter(0, 11), RecipeScheduler.RUNNING);
@@ -107,7 +98,7 @@ final class ForecastTests {
 
   static void promise44TheBoundOf500() {
     // The last step begins in the minute that ends the others, and burns 31 minutes after its end.
-    RecipeScheduler x = Kit.loaded(row(60, 60, 60, 60, 60, 60, 60)
+    RecipeScheduler x = Kit.loaded(Kit.row(60, 60, 60, 60, 60, 60, 60)
         + "step h 40 1;step last 8 1 hot;");
     Kit.due("minutesToFinish()", x.minutesToFinish(), 469);
     Kit.due("minutesToBurn(8)", x.minutesToBurn(8), 500);
@@ -122,7 +113,7 @@ final class ForecastTests {
     Kit.due("minutesWithCooks(4)", x.minutesWithCooks(4), 15);
     Kit.due("cooks()", x.cooks(), 1);
     for (int cooks : new int[] {0, 5, -1, Integer.MAX_VALUE, Integer.MIN_VALUE}) {
-      Kit.fails(Kit.ARGUMENT, x, "minutesWithCooks " + cooks, () -> x.minutesWithCooks(cooks));
+      Kit.throwsJust(Kit.ARGUMENT, "minutesWithCooks " + cooks, () -> x.minutesWithCooks(cooks));
     }
     x.pass(17);
     Kit.due("minutesWithCooks(3), all done", x.minutesWithCooks(3), 0);
@@ -158,7 +149,7 @@ final class ForecastTests {
     Kit.due("bottleneck()", x.bottleneck(), Kit.BOIL);
     Kit.due("state", Kit.state(x), Kit.state(Kit.fresh()));
     x.pass(17);
-    Kit.fails(Kit.ELEMENT, x, "bottleneck(), all done", x::bottleneck);
+    Kit.throwsJust(Kit.ELEMENT, "bottleneck(), all done", x::bottleneck);
     x.redo(Kit.REST);
     Kit.due("bottleneck()", x.bottleneck(), Kit.REST);
     Kit.load(x, "recipe 4 9 0 9;step a 1 1;step b 9 1;step c 9 1;");
@@ -181,7 +172,7 @@ final class ForecastTests {
   }
 
   static void promise47NoneCountsAs501() {
-    RecipeScheduler x = Kit.loaded(row(1, 60, 60, 60, 60, 60, 60, 60, 60, 19));
+    RecipeScheduler x = Kit.loaded(Kit.row(1, 60, 60, 60, 60, 60, 60, 60, 60, 19));
     Kit.due("minutesToFinish()", x.minutesToFinish(), NONE);
     Kit.due("bottleneck()", x.bottleneck(), 1);
     x.setDuration(9, 30);

@@ -15,6 +15,7 @@ import java.util.regex.Pattern;
 final class LanguageTests {
   private static final String SOURCE = System.getProperty("source",
       "src/main/java/RecipeScheduler.java");
+  private static final int ROUNDS = 5;
   private static final Pattern METHOD =
       Pattern.compile("^ +(?!return|new|else|throw)[\\w<>\\[\\] ]*\\b(\\w+)\\(([^()]*)\\)"
           + "(?:\\s+throws [\\w, \n]+?)? \\{$", Pattern.MULTILINE);
@@ -131,14 +132,20 @@ final class LanguageTests {
   }
 
   static void rule12CallsMakeNoObjects() {
-    RecipeScheduler x = new RecipeScheduler();
+    RecipeScheduler[] objects = new RecipeScheduler[ROUNDS];
+    for (int i = 0; i < ROUNDS; i++) {
+      objects[i] = new RecipeScheduler();
+    }
+    int[] next = new int[1];
     long made = bytesMadeBy(() -> {
-      for (int i = 0; i < 100; i++) {
+      RecipeScheduler x = objects[next[0]];
+      next[0]++;
+      for (int i = 0; i < 16; i++) {
         manyCalls(x);
       }
       return null;
     });
-    Kit.due("bytes made by 100 rounds of calls are few: " + made, made < 5000, true);
+    Kit.due("bytes made by 480 calls are few: " + made, made < 1000, true);
   }
 
   static void rule12AnObjectIsSmall() {
@@ -153,7 +160,7 @@ final class LanguageTests {
         (com.sun.management.ThreadMXBean) ManagementFactory.getThreadMXBean();
     long thread = Thread.currentThread().getId();
     long least = Long.MAX_VALUE;
-    for (int i = 0; i < 5; i++) {
+    for (int i = 0; i < ROUNDS; i++) {
       long before = counter.getThreadAllocatedBytes(thread);
       call.answer();
       least = Math.min(least, counter.getThreadAllocatedBytes(thread) - before);

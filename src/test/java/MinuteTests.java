@@ -45,19 +45,19 @@ final class MinuteTests {
   static void promise52Throws() {
     RecipeScheduler x = Kit.fresh();
     for (int minutes : new int[] {0, -1, 201, Integer.MAX_VALUE, Integer.MIN_VALUE}) {
-      Kit.fails(Kit.ARGUMENT, x, "pass " + minutes, () -> x.pass(minutes));
+      Kit.throwsJust(Kit.ARGUMENT, "pass " + minutes, () -> x.pass(minutes));
     }
     for (int i = 0; i < 49; i++) {
       x.pass(200);
     }
-    Kit.fails(Kit.STATE, x, "pass(200) at 9800", () -> x.pass(200));
+    Kit.throwsJust(Kit.STATE, "pass(200) at 9800", () -> x.pass(200));
     x.pass(198);
-    Kit.fails(Kit.STATE, x, "pass(2) at 9998", () -> x.pass(2));
+    Kit.throwsJust(Kit.STATE, "pass(2) at 9998", () -> x.pass(2));
     Kit.due("pass(1)", x.pass(1), 0);
     Kit.due("minute()", x.minute(), 9999);
-    Kit.fails(Kit.STATE, x, "pass(1) at 9999", () -> x.pass(1));
-    Kit.fails(Kit.ARGUMENT, x, "pass(0) at 9999", () -> x.pass(0));
-    Kit.fails(Kit.ARGUMENT, x, "pass(201) at 9999", () -> x.pass(201));
+    Kit.throwsJust(Kit.STATE, "pass(1) at 9999", () -> x.pass(1));
+    Kit.throwsJust(Kit.ARGUMENT, "pass(0) at 9999", () -> x.pass(0));
+    Kit.throwsJust(Kit.ARGUMENT, "pass(201) at 9999", () -> x.pass(201));
   }
 
   static void promise52OnlyTheClockMovesAfterServing() {
@@ -155,7 +155,8 @@ final class MinuteTests {
   }
 
   static void terms3AStepMayBeInTheWayOfItsOwnSuccessor() {
-    RecipeScheduler x = Kit.loaded("recipe 4 9 0 9;pan p 1;step a 1 1 in p;step b 1 1 in p after a;");
+    RecipeScheduler x = Kit.loaded("recipe 4 9 0 9;pan p 1;step a 1 1 in p;"
+        + "step b 1 1 in p after a;");
     after(x, 2, "a= b.");
     after(x, 200, "a= b.");
     Kit.due("whyNotRunning(1)", x.whyNotRunning(1), 3);

@@ -1,12 +1,15 @@
 import java.lang.reflect.InvocationTargetException;
 import java.lang.reflect.Method;
 import java.util.ArrayList;
+import java.util.Collections;
 import java.util.Comparator;
 import java.util.List;
 import java.util.Random;
 
 /** Long runs of calls with fixed seeds: the program and the model answer every call alike. */
 final class ModelTests {
+  /** What an object answers after so many calls is free. */
+  private static final int MAX_CALLS = 512;
   private static final int[] EDGES = {-1, 0, 1, 2, 13, 14, 60, 61, 200, 201, 500, 501, -9, -10,
       Integer.MIN_VALUE, Integer.MAX_VALUE};
   private static final String[] WORDS = {"recipe", "pan", "step", "in", "hot", "alone", "after",
@@ -20,8 +23,18 @@ final class ModelTests {
     private final RecipeScheduler program = new RecipeScheduler();
     private final Model model = new Model();
     private final StringBuilder calls = new StringBuilder();
+    private int callCount;
 
+    boolean isUsedUp() {
+      return callCount >= MAX_CALLS;
+    }
+
+    /** Compares the two answers, if the document promises one. */
     String call(String name, Object... arguments) throws IllegalAccessException {
+      if (isUsedUp()) {
+        return "";
+      }
+      callCount++;
       Class<?>[] types = new Class<?>[arguments.length];
       StringBuilder text = new StringBuilder(name).append('(');
       for (int i = 0; i < types.length; i++) {
@@ -197,9 +210,11 @@ final class ModelTests {
     }
   }
 
-  private static void everyQuestion(Pair pair, List<Method> methods)
+  private static void everyQuestion(Pair pair, Random random, List<Method> methods)
       throws IllegalAccessException {
-    for (Method method : methods) {
+    List<Method> shuffled = new ArrayList<>(methods);
+    Collections.shuffle(shuffled, random);
+    for (Method method : shuffled) {
       boolean asks = !method.getName().matches("append|truncate|load|pass|addSalt|stop|redo"
           + "|setCooks|setDuration|serve|runScript|undo|save|restore|writeSummary");
       if (asks && method.getParameterCount() == 0) {
@@ -214,38 +229,36 @@ final class ModelTests {
 
   static void termsRunsOfChangesAndQuestions() throws IllegalAccessException {
     List<Method> methods = methods();
-    for (int seed = 0; seed < 300; seed++) {
+    for (int seed = 0; seed < 400; seed++) {
       Random random = new Random(seed);
       Pair pair = new Pair();
       if (seed % 10 > 0) {
         pair.feed(setup(random));
         pair.call("load");
       }
-      for (int i = 0; i < 60; i++) {
+      while (!pair.isUsedUp()) {
         anyChange(pair, random);
         anyCall(pair, random, methods);
         pair.call("writeSummary");
-        if (i % 15 == 0) {
-          everyQuestion(pair, methods);
-        }
-      }
-      for (int i = 0; i < pair.model.writeSummary(); i++) {
-        pair.call("outputByte", i);
       }
     }
   }
 
-  static void termsQuestionsInEveryMinute() throws IllegalAccessException {
+  static void termsQuestionsAfterSomeChanges() throws IllegalAccessException {
     List<Method> methods = methods();
-    for (int seed = 1000; seed < 1060; seed++) {
+    for (int seed = 20000; seed < 20400; seed++) {
       Random random = new Random(seed);
       Pair pair = new Pair();
       pair.feed(setup(random));
       pair.call("load");
-      for (int i = 0; i < 12; i++) {
-        everyQuestion(pair, methods);
-        pair.call("pass", 1 + random.nextInt(2));
+      for (int i = random.nextInt(25); i > 0; i--) {
+        anyChange(pair, random);
       }
+      pair.call("writeSummary");
+      for (int i = -1; i <= pair.model.stepCount() * 9; i += 3) {
+        pair.call("outputByte", i);
+      }
+      everyQuestion(pair, random, methods);
     }
   }
 

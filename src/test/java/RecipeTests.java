@@ -72,7 +72,7 @@ final class RecipeTests {
     Kit.due("done", x.countWithStatus(RecipeScheduler.DONE), 2);
     Kit.due("burnt", x.countWithStatus(RecipeScheduler.BURNT), 0);
     for (int status : new int[] {-1, 4, Integer.MIN_VALUE, Integer.MAX_VALUE}) {
-      Kit.fails(Kit.ARGUMENT, x, "countWithStatus " + status, () -> x.countWithStatus(status));
+      Kit.throwsJust(Kit.ARGUMENT, "countWithStatus " + status, () -> x.countWithStatus(status));
     }
     Kit.load(x, BURNING);
     x.pass(7);
@@ -148,11 +148,11 @@ final class RecipeTests {
     Kit.due("panCapacity(0)", x.panCapacity(0), 3);
     Kit.due("panCapacity(1)", x.panCapacity(1), 1);
     for (int pan : new int[] {-1, 2, 3, 4, Integer.MIN_VALUE, Integer.MAX_VALUE}) {
-      Kit.fails(Kit.BOUNDS, x, "panCapacity " + pan, () -> x.panCapacity(pan));
+      Kit.throwsJust(Kit.BOUNDS, "panCapacity " + pan, () -> x.panCapacity(pan));
     }
     Kit.load(x, "recipe 1 1 1 1;pan a 1;pan b 2;pan c 4;pan d 5;step a 1 1;");
     Kit.due("panCapacity(3)", x.panCapacity(3), 5);
-    Kit.fails(Kit.BOUNDS, x, "panCapacity 4", () -> x.panCapacity(4));
+    Kit.throwsJust(Kit.BOUNDS, "panCapacity 4", () -> x.panCapacity(4));
   }
 
   static void promise18PansInUse() {
@@ -173,7 +173,7 @@ final class RecipeTests {
     x.stop(Kit.REST);
     Kit.due("pansInUse(1), rest waiting", x.pansInUse(1), 1);
     for (int pan : new int[] {-1, 2, Integer.MIN_VALUE, Integer.MAX_VALUE}) {
-      Kit.fails(Kit.BOUNDS, x, "pansInUse " + pan, () -> x.pansInUse(pan));
+      Kit.throwsJust(Kit.BOUNDS, "pansInUse " + pan, () -> x.pansInUse(pan));
     }
   }
 
@@ -256,7 +256,7 @@ final class RecipeTests {
     Kit.due("predecessor(4, max)", x.predecessor(4, Integer.MAX_VALUE), RecipeScheduler.NONE);
     Kit.due("predecessor(4, min)", x.predecessor(4, Integer.MIN_VALUE), RecipeScheduler.NONE);
     for (int step : Kit.NOWHERE) {
-      Kit.fails(Kit.BOUNDS, x, "predecessor " + step, () -> x.predecessor(step, -1));
+      Kit.throwsJust(Kit.BOUNDS, "predecessor " + step, () -> x.predecessor(step, -1));
     }
   }
 
@@ -278,20 +278,16 @@ final class RecipeTests {
       }
     }
     for (int step : Kit.NOWHERE) {
-      Kit.fails(Kit.BOUNDS, x, "dependsOn", () -> x.dependsOn(step, 0));
-      Kit.fails(Kit.BOUNDS, x, "dependsOn", () -> x.dependsOn(0, step));
-      Kit.fails(Kit.BOUNDS, x, "dependsOn", () -> x.dependsOn(step, step));
+      Kit.throwsJust(Kit.BOUNDS, "dependsOn", () -> x.dependsOn(step, 0));
+      Kit.throwsJust(Kit.BOUNDS, "dependsOn", () -> x.dependsOn(0, step));
+      Kit.throwsJust(Kit.BOUNDS, "dependsOn", () -> x.dependsOn(step, step));
     }
-    Kit.fails(Kit.BOUNDS, x, "dependsOn", () -> x.dependsOn(1, 6));
-    Kit.fails(Kit.BOUNDS, x, "dependsOn", () -> x.dependsOn(6, 1));
+    Kit.throwsJust(Kit.BOUNDS, "dependsOn", () -> x.dependsOn(1, 6));
+    Kit.throwsJust(Kit.BOUNDS, "dependsOn", () -> x.dependsOn(6, 1));
   }
 
   static void promise26DependsOnThroughALongChain() {
-    StringBuilder text = new StringBuilder("recipe 1 1 1 1;step a 1 1;");
-    for (char c = 'b'; c < 'a' + 14; c++) {
-      text.append("step ").append(c).append(" 1 1 after ").append((char) (c - 1)).append(';');
-    }
-    RecipeScheduler x = Kit.loaded(text.toString());
+    RecipeScheduler x = Kit.loaded(Kit.chain(14, 1));
     Kit.due("dependsOn(13, 0)", x.dependsOn(13, 0), true);
     Kit.due("dependsOn(0, 13)", x.dependsOn(0, 13), false);
     Kit.due("pathLength(0)", x.pathLength(0), 14);
@@ -323,38 +319,38 @@ final class RecipeTests {
       Kit.due("nameLetter 5 " + i, x.nameLetter(5, i), name.charAt(i));
     }
     Kit.due("nameLetter(1, 0)", x.nameLetter(1, 0), 'b');
-    Kit.fails(Kit.BOUNDS, x, "nameLetter(1, 1)", () -> x.nameLetter(1, 1));
-    Kit.fails(Kit.BOUNDS, x, "nameLetter(5, 6)", () -> x.nameLetter(5, 6));
+    Kit.throwsJust(Kit.BOUNDS, "nameLetter(1, 1)", () -> x.nameLetter(1, 1));
+    Kit.throwsJust(Kit.BOUNDS, "nameLetter(5, 6)", () -> x.nameLetter(5, 6));
     for (int index : new int[] {-1, 7, Integer.MIN_VALUE, Integer.MAX_VALUE}) {
-      Kit.fails(Kit.BOUNDS, x, "nameLetter 5 " + index, () -> x.nameLetter(5, index));
+      Kit.throwsJust(Kit.BOUNDS, "nameLetter 5 " + index, () -> x.nameLetter(5, index));
     }
     for (int step : Kit.NOWHERE) {
-      Kit.fails(Kit.BOUNDS, x, "nameLetter", () -> x.nameLetter(step, 0));
+      Kit.throwsJust(Kit.BOUNDS, "nameLetter", () -> x.nameLetter(step, 0));
     }
-    Kit.fails(Kit.BOUNDS, x, "nameLetter", () -> x.nameLetter(6, 0));
+    Kit.throwsJust(Kit.BOUNDS, "nameLetter", () -> x.nameLetter(6, 0));
   }
 
   static void promise29FindStep() {
     RecipeScheduler x = Kit.fresh();
-    Kit.fails(Kit.ELEMENT, x, "findStep() of nothing", x::findStep);
+    Kit.throwsJust(Kit.ELEMENT, "findStep() of nothing", x::findStep);
     Kit.feed(x, "fry");
     Kit.due("findStep()", x.findStep(), Kit.FRY);
     Kit.due("findStep() again", x.findStep(), Kit.FRY);
     Kit.due("truncate(3)", x.truncate(3), 3);
     x.truncate(2);
-    Kit.fails(Kit.ELEMENT, x, "findStep() of a part", x::findStep);
+    Kit.throwsJust(Kit.ELEMENT, "findStep() of a part", x::findStep);
     Kit.feed(x, "y ");
-    Kit.fails(Kit.ELEMENT, x, "findStep() with a space behind", x::findStep);
+    Kit.throwsJust(Kit.ELEMENT, "findStep() with a space behind", x::findStep);
     for (String text : new String[] {" fry", "pot", "fryfry", "FRY", "fr\u0079\0", "cutboil"}) {
       x.truncate(0);
       Kit.feed(x, text);
-      Kit.fails(Kit.ELEMENT, x, "findStep() of " + text, x::findStep);
+      Kit.throwsJust(Kit.ELEMENT, "findStep() of " + text, x::findStep);
     }
     x.truncate(0);
     Kit.feed(x, "rest");
     Kit.due("findStep()", x.findStep(), Kit.REST);
     Kit.feed(x, "x".repeat(600));
-    Kit.fails(Kit.ELEMENT, x, "findStep() of a long text", x::findStep);
+    Kit.throwsJust(Kit.ELEMENT, "findStep() of a long text", x::findStep);
   }
 
   static void promise30AndOthersRefuseAStepThatDoesNotExist() {
@@ -368,27 +364,27 @@ final class RecipeTests {
 
   private static void refuse(RecipeScheduler x, int step) {
     String at = " of " + step;
-    Kit.fails(Kit.BOUNDS, x, "duration" + at, () -> x.duration(step));
-    Kit.fails(Kit.BOUNDS, x, "stepTaste" + at, () -> x.stepTaste(step));
-    Kit.fails(Kit.BOUNDS, x, "panType" + at, () -> x.panType(step));
-    Kit.fails(Kit.BOUNDS, x, "isHot" + at, () -> x.isHot(step));
-    Kit.fails(Kit.BOUNDS, x, "isUnattended" + at, () -> x.isUnattended(step));
-    Kit.fails(Kit.BOUNDS, x, "predecessor" + at, () -> x.predecessor(step, 0));
-    Kit.fails(Kit.BOUNDS, x, "successorCount" + at, () -> x.successorCount(step));
-    Kit.fails(Kit.BOUNDS, x, "pathLength" + at, () -> x.pathLength(step));
-    Kit.fails(Kit.BOUNDS, x, "status" + at, () -> x.status(step));
-    Kit.fails(Kit.BOUNDS, x, "remaining" + at, () -> x.remaining(step));
-    Kit.fails(Kit.BOUNDS, x, "age" + at, () -> x.age(step));
-    Kit.fails(Kit.BOUNDS, x, "startsOf" + at, () -> x.startsOf(step));
-    Kit.fails(Kit.BOUNDS, x, "isTakenUp" + at, () -> x.isTakenUp(step));
-    Kit.fails(Kit.BOUNDS, x, "whyNotRunning" + at, () -> x.whyNotRunning(step));
-    Kit.fails(Kit.BOUNDS, x, "blockingStep" + at, () -> x.blockingStep(step));
-    Kit.fails(Kit.BOUNDS, x, "rootBlocker" + at, () -> x.rootBlocker(step));
-    Kit.fails(Kit.BOUNDS, x, "slack" + at, () -> x.slack(step));
-    Kit.fails(Kit.BOUNDS, x, "minutesToBurn" + at, () -> x.minutesToBurn(step));
-    Kit.fails(Kit.BOUNDS, x, "statusAfter" + at, () -> x.statusAfter(step, -1));
-    Kit.fails(Kit.BOUNDS, x, "stop" + at, () -> x.stop(step));
-    Kit.fails(Kit.BOUNDS, x, "redo" + at, () -> x.redo(step));
-    Kit.fails(Kit.BOUNDS, x, "setDuration" + at, () -> x.setDuration(step, 0));
+    Kit.throwsJust(Kit.BOUNDS, "duration" + at, () -> x.duration(step));
+    Kit.throwsJust(Kit.BOUNDS, "stepTaste" + at, () -> x.stepTaste(step));
+    Kit.throwsJust(Kit.BOUNDS, "panType" + at, () -> x.panType(step));
+    Kit.throwsJust(Kit.BOUNDS, "isHot" + at, () -> x.isHot(step));
+    Kit.throwsJust(Kit.BOUNDS, "isUnattended" + at, () -> x.isUnattended(step));
+    Kit.throwsJust(Kit.BOUNDS, "predecessor" + at, () -> x.predecessor(step, 0));
+    Kit.throwsJust(Kit.BOUNDS, "successorCount" + at, () -> x.successorCount(step));
+    Kit.throwsJust(Kit.BOUNDS, "pathLength" + at, () -> x.pathLength(step));
+    Kit.throwsJust(Kit.BOUNDS, "status" + at, () -> x.status(step));
+    Kit.throwsJust(Kit.BOUNDS, "remaining" + at, () -> x.remaining(step));
+    Kit.throwsJust(Kit.BOUNDS, "age" + at, () -> x.age(step));
+    Kit.throwsJust(Kit.BOUNDS, "startsOf" + at, () -> x.startsOf(step));
+    Kit.throwsJust(Kit.BOUNDS, "isTakenUp" + at, () -> x.isTakenUp(step));
+    Kit.throwsJust(Kit.BOUNDS, "whyNotRunning" + at, () -> x.whyNotRunning(step));
+    Kit.throwsJust(Kit.BOUNDS, "blockingStep" + at, () -> x.blockingStep(step));
+    Kit.throwsJust(Kit.BOUNDS, "rootBlocker" + at, () -> x.rootBlocker(step));
+    Kit.throwsJust(Kit.BOUNDS, "slack" + at, () -> x.slack(step));
+    Kit.throwsJust(Kit.BOUNDS, "minutesToBurn" + at, () -> x.minutesToBurn(step));
+    Kit.throwsJust(Kit.BOUNDS, "statusAfter" + at, () -> x.statusAfter(step, -1));
+    Kit.throwsJust(Kit.BOUNDS, "stop" + at, () -> x.stop(step));
+    Kit.throwsJust(Kit.BOUNDS, "redo" + at, () -> x.redo(step));
+    Kit.throwsJust(Kit.BOUNDS, "setDuration" + at, () -> x.setDuration(step, 0));
   }
 }

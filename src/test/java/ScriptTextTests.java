@@ -3,8 +3,7 @@ final class ScriptTextTests {
   private ScriptTextTests() {}
 
   private static void bad(int code, String marked) {
-    int position = marked.indexOf('^');
-    Kit.badScript(marked.replace("^", ""), code, position);
+    Kit.badScript(code, marked);
   }
 
   static void promise59SyntaxErrors() {

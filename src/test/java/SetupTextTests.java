@@ -5,10 +5,8 @@ final class SetupTextTests {
 
   private SetupTextTests() {}
 
-  /** Refused at the mark '^', which is taken out of the text. */
   private static void bad(int code, String marked) {
-    int position = marked.indexOf('^');
-    Kit.badSetup(marked.replace("^", ""), code, position);
+    Kit.badSetup(code, marked);
   }
 
   static void promise4TheTextMayEndTooEarly() {

@@ -3,20 +3,18 @@ final class UndoTests {
   private UndoTests() {}
 
   static void promise60EveryChangeIsUndone() {
-    RecipeScheduler x = Kit.fresh();
-    x.pass(17);
-    x.save(0);
-    Kit.Call[] changes = {() -> x.pass(1), () -> x.addSalt(1), () -> x.redo(Kit.REST),
-        () -> x.setCooks(3), () -> x.setDuration(2, 9), x::serve, x::runScript};
+    Kit.Act[] changes = {y -> y.pass(1), y -> y.addSalt(1), y -> y.redo(Kit.REST),
+        y -> y.setCooks(3), y -> y.setDuration(2, 9), RecipeScheduler::serve,
+        RecipeScheduler::runScript};
     for (int i = 0; i < changes.length; i++) {
-      x.restore(0);
+      RecipeScheduler x = Kit.FINISHED.then(y -> y.save(0), y -> y.restore(0)).made();
       String before = Kit.state(x);
-      changes[i].answer();
+      changes[i].on(x);
       Kit.due("undo() of change " + i, x.undo(), 0);
       Kit.due("state after undo() of change " + i, Kit.state(x), before);
-      Kit.fails(Kit.STATE, x, "undo()", x::undo);
+      Kit.throwsJust(Kit.STATE, "undo()", x::undo);
     }
-    Kit.load(x, Kit.DEFAULT);
+    RecipeScheduler x = Kit.fresh();
     x.pass(2);
     String before = Kit.state(x);
     x.stop(0);
@@ -35,7 +33,7 @@ final class UndoTests {
       salt -= left + 4;
       Kit.due("salt()", x.salt(), salt);
     }
-    Kit.fails(Kit.STATE, x, "undo() of the seventh", x::undo);
+    Kit.throwsJust(Kit.STATE, "undo() of the seventh", x::undo);
     Kit.due("salt()", x.salt(), 6);
   }
 
@@ -53,7 +51,7 @@ final class UndoTests {
       Kit.due("undo()", x.undo(), left);
     }
     Kit.due("salt()", x.salt(), 0);
-    Kit.fails(Kit.STATE, x, "undo()", x::undo);
+    Kit.throwsJust(Kit.STATE, "undo()", x::undo);
   }
 
   static void promise60WhatUndoLeavesAlone() {
@@ -101,7 +99,7 @@ final class UndoTests {
     Kit.due("restore(1)", x.restore(1), 5);
     Kit.due("restore(0)", x.restore(0), 10);
     for (int slot : new int[] {-1, 2, Integer.MAX_VALUE, Integer.MIN_VALUE}) {
-      Kit.fails(Kit.BOUNDS, x, "save " + slot, () -> x.save(slot));
+      Kit.throwsJust(Kit.BOUNDS, "save " + slot, () -> x.save(slot));
     }
   }
 
@@ -116,15 +114,15 @@ final class UndoTests {
   static void promise62Restore() {
     RecipeScheduler x = Kit.fresh();
     for (int slot : new int[] {-1, 2, Integer.MAX_VALUE, Integer.MIN_VALUE}) {
-      Kit.fails(Kit.BOUNDS, x, "restore " + slot, () -> x.restore(slot));
+      Kit.throwsJust(Kit.BOUNDS, "restore " + slot, () -> x.restore(slot));
     }
-    Kit.fails(Kit.STATE, x, "restore(0)", () -> x.restore(0));
+    Kit.throwsJust(Kit.STATE, "restore(0)", () -> x.restore(0));
     x.pass(8);
     x.addSalt(-5);
     x.setDuration(1, 33);
     x.setCooks(3);
     x.save(1);
-    Kit.fails(Kit.STATE, x, "restore(0)", () -> x.restore(0));
+    Kit.throwsJust(Kit.STATE, "restore(0)", () -> x.restore(0));
     String before = Kit.state(x);
     x.pass(2);
     x.stop(Kit.FRY);
@@ -139,7 +137,7 @@ final class UndoTests {
     Kit.due("state", Kit.state(x), before);
     x.pass(1);
     Kit.due("undo()", x.undo(), 0);
-    Kit.due("state", Kit.state(x), before);
+    Kit.due("minute()", x.minute(), 8);
   }
 
   static void promise62BurntStepsAreRestoredToo() {
@@ -205,13 +203,13 @@ final class UndoTests {
     x.pass(1);
     Kit.due("writeSummary()", x.writeSummary(), 125);
     Kit.due("summary", Kit.summary(x), due.toString());
-    Kit.fails(Kit.BOUNDS, x, "outputByte(125)", () -> x.outputByte(125));
+    Kit.throwsJust(Kit.BOUNDS, "outputByte(125)", () -> x.outputByte(125));
   }
 
   static void promise64OutputByte() {
     RecipeScheduler x = Kit.fresh();
     for (int index : new int[] {-1, 0, 1, Integer.MAX_VALUE, Integer.MIN_VALUE}) {
-      Kit.fails(Kit.BOUNDS, x, "outputByte " + index, () -> x.outputByte(index));
+      Kit.throwsJust(Kit.BOUNDS, "outputByte " + index, () -> x.outputByte(index));
     }
     x.writeSummary();
     Kit.due("outputByte(0)", x.outputByte(0), 'c');
@@ -219,13 +217,13 @@ final class UndoTests {
     Kit.due("outputByte(4)", x.outputByte(4), ' ');
     Kit.due("outputByte(25)", x.outputByte(25), '.');
     for (int index : new int[] {-1, 26, Integer.MAX_VALUE, Integer.MIN_VALUE}) {
-      Kit.fails(Kit.BOUNDS, x, "outputByte " + index, () -> x.outputByte(index));
+      Kit.throwsJust(Kit.BOUNDS, "outputByte " + index, () -> x.outputByte(index));
     }
     x.pass(1);
     Kit.due("outputByte(3), as it was written", x.outputByte(3), '.');
     Kit.load(x, "recipe 1 1 0 9;step a 1 1;");
     Kit.due("outputByte(25), as it was written", x.outputByte(25), '.');
     x.writeSummary();
-    Kit.fails(Kit.BOUNDS, x, "outputByte(2)", () -> x.outputByte(2));
+    Kit.throwsJust(Kit.BOUNDS, "outputByte(2)", () -> x.outputByte(2));
   }
 }
