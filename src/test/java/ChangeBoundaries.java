@@ -39,6 +39,8 @@ final class ChangeBoundaries {
     Kit.refuses(Kit.ARGUMENT, Kit.USED, "pass", others, (x, minutes) -> x.pass(minutes));
     Kit.refuses(Kit.ARGUMENT, Kit.rich(Kit.SERVED), "pass", others,
         (x, minutes) -> x.pass(minutes));
+    Kit.refuses(Kit.ARGUMENT, Kit.rich(Kit.atMinute(9999, Kit.NEW)), "pass", others,
+        (x, minutes) -> x.pass(minutes));
   }
 
   @Sentence("Throws `IllegalStateException` if the current minute would exceed 9999")
