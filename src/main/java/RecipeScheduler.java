@@ -391,12 +391,12 @@ public final class RecipeScheduler {
     }
 
     public float doneShare() {
-        return (float) Integer.bitCount(now.state.done) / (float) now.recipe.steps.count;
+        return (float) Integer.bitCount(now.state.done) / (float) stepsToShareBy();
     }
 
     public double meanDuration() {
-        int count = now.recipe.steps.count;
-        return (double) sum(now.state.duration, count) / (double) count;
+        int all = sum(now.state.duration, now.recipe.steps.count);
+        return (double) all / (double) stepsToShareBy();
     }
 
     public int inconsistencies() {
@@ -641,6 +641,11 @@ public final class RecipeScheduler {
                 now.state.served = true;
                 break;
         }
+    }
+
+    /** Every setup has a step, but a divisor is looked at before it divides. */
+    private int stepsToShareBy() {
+        return Math.max(1, now.recipe.steps.count);
     }
 
     private int finishWithCooks(int cooks) {
@@ -1073,6 +1078,10 @@ public final class RecipeScheduler {
 
         ScriptReader(Tokens tokens) {
             this.tokens = tokens;
+            // No element is ever null, so that whoever takes one may use it.
+            for (int i = 0; i < MAX_COMMANDS; i++) {
+                commands[i] = Command.PASS;
+            }
         }
 
         void read(Names names) {

@@ -4,14 +4,14 @@ import java.util.TreeSet;
 
 /**
  * Runs every static method of the test classes whose name begins with "promise" and the number
- * of the promise that it tests, with "terms" or with "rule".
+ * of the promise that it tests, with "terms", with "rule" or with "readme".
  */
 public final class AllTests {
   private static final int PROMISES = 64;
   static final Class<?>[] TESTS = {
       InputTests.class, SetupTextTests.class, ScriptTextTests.class, RecipeTests.class,
       ProgressTests.class, MinuteTests.class, ForecastTests.class, ChangeTests.class,
-      UndoTests.class, FaceTests.class, ModelTests.class, LanguageTests.class,
+      UndoTests.class, FaceTests.class, ModelTests.class, LanguageTests.class, ReadmeTests.class,
       RecipeTermsBoundaries.class, ProgressTermsBoundaries.class, MinuteTermsBoundaries.class,
       TextBoundaries.class, ErrorBoundaries.class, StateTermsBoundaries.class,
       InputBoundaries.class, RecipeBoundaries.class, ProgressBoundaries.class,
@@ -27,7 +27,7 @@ public final class AllTests {
   public static void main(String[] arguments) throws IllegalAccessException {
     for (Class<?> tests : TESTS) {
       for (Method test : tests.getDeclaredMethods()) {
-        if (test.getName().matches("(promise|terms|rule).*")) {
+        if (test.getName().matches("(promise|terms|rule|readme).*")) {
           run(test);
         }
       }

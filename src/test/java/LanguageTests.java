@@ -7,6 +7,7 @@ import java.nio.charset.StandardCharsets;
 import java.nio.file.Files;
 import java.nio.file.Path;
 import java.util.ArrayList;
+import java.util.Arrays;
 import java.util.List;
 import java.util.regex.Matcher;
 import java.util.regex.Pattern;
@@ -84,6 +85,58 @@ final class LanguageTests {
           + "|IndexOutOfBounds|NoSuchElement)Exception\\(\"\"\\)"), true);
     }
     Kit.due("throws were found", found > 10, true);
+  }
+
+  static void rule7ADivisorIsAConstantOrLookedAt() throws IOException {
+    Matcher divisor = Pattern.compile("[/%]=? *([^;]*)").matcher(code());
+    int found = 0;
+    while (divisor.find()) {
+      found++;
+      Kit.due(divisor.group(), divisor.group(1).matches(
+          "([1-9]\\d*|MAX_\\w+)\\)?|\\((float|double)\\) stepsToShareBy\\(\\)"), true);
+    }
+    Kit.due("divisions were found", found > 5, true);
+    Kit.due("stepsToShareBy() answers 1 or more",
+        code().matches("(?s).* stepsToShareBy\\(\\) \\{\\s+return Math\\.max\\(1, [^;]*;.*"), true);
+  }
+
+  static void rule7NoReferenceIsEverNull() throws IllegalAccessException {
+    RecipeScheduler fresh = Kit.fresh();
+    Kit.due("references were found", withoutNull(fresh, new ArrayList<>()) > 100, true);
+    for (Kit.Make make : new Kit.Make[] {Kit.USED, Kit.rich(Kit.made(Kit.steps(14))), Kit.SERVED}) {
+      withoutNull(make.made(), new ArrayList<>());
+    }
+  }
+
+  /** Walks through all that an object of the program holds, and counts its parts. */
+  private static int withoutNull(Object part, List<Object> seen) throws IllegalAccessException {
+    for (Object other : seen) {
+      if (other == part) {
+        return 0;
+      }
+    }
+    seen.add(part);
+    int parts = 1;
+    for (Object inside : references(part)) {
+      Kit.due("a null in " + part.getClass().getSimpleName(), inside == null, false);
+      parts += withoutNull(inside, seen);
+    }
+    return parts;
+  }
+
+  private static List<Object> references(Object part) throws IllegalAccessException {
+    List<Object> found = new ArrayList<>();
+    if (part instanceof Object[]) {
+      found.addAll(Arrays.asList((Object[]) part));
+    } else if (classes().contains(part.getClass())) {
+      for (Field field : part.getClass().getDeclaredFields()) {
+        if (!field.getType().isPrimitive()) {
+          field.setAccessible(true);
+          found.add(field.get(part));
+        }
+      }
+    }
+    return found;
   }
 
   static void rule10TextsAreNotJoinedByPlus() throws IOException {
