@@ -1,8 +1,15 @@
+import java.io.IOException;
 import java.lang.reflect.Constructor;
 import java.lang.reflect.Field;
 import java.lang.reflect.Method;
 import java.lang.reflect.Modifier;
+import java.nio.file.Files;
+import java.nio.file.Path;
+import java.util.ArrayList;
+import java.util.List;
 import java.util.TreeSet;
+import java.util.regex.Matcher;
+import java.util.regex.Pattern;
 
 /** The public face: nothing is missing and nothing is too many. */
 final class FaceTests {
@@ -57,6 +64,34 @@ final class FaceTests {
         Kit.due(method + " bears a name of the face", names.contains(method.getName()), false);
       }
     }
+  }
+
+  /** The names of parameters aside, which no compiled class keeps. */
+  static void termsTheMethodsDeclareTheExceptionsOfTheDocument() throws IOException {
+    TreeSet<String> due = new TreeSet<>();
+    Matcher face = Pattern.compile("^    public (\\w+ \\w+\\(.*);$", Pattern.MULTILINE)
+        .matcher(Files.readString(Path.of(System.getProperty("document", "../shared/DOC.md"))));
+    while (face.find()) {
+      due.add(face.group(1).replaceAll("int \\w+([,)])", "int$1"));
+    }
+    TreeSet<String> got = new TreeSet<>();
+    for (Method method : RecipeScheduler.class.getDeclaredMethods()) {
+      if (Modifier.isPublic(method.getModifiers())) {
+        got.add(method.getReturnType() + " " + method.getName() + "("
+            + names(method.getParameterTypes()) + ")"
+            + (method.getExceptionTypes().length == 0 ? "" : " throws ")
+            + names(method.getExceptionTypes()));
+      }
+    }
+    Kit.due("the face", String.join("\n", got), String.join("\n", due));
+  }
+
+  private static String names(Class<?>[] classes) {
+    List<String> names = new ArrayList<>();
+    for (Class<?> one : classes) {
+      names.add(one.getSimpleName());
+    }
+    return String.join(", ", names);
   }
 
   static void termsTheClassAndItsConstructor() {
